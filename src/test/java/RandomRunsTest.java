@@ -21,7 +21,18 @@ public final class RandomRunsTest {
   String gap() { return one(6) ? "  " : " "; }
   String maybe() { return one(3) ? " " : ""; }
 
+  /** Few KEEPS that burn soon and overhear one another, each with people of its own. */
+  String closeDale() {
+    int keeps = 2 + upTo(1);
+    StringBuilder b = new StringBuilder("dale ").append(1 + upTo(8)).append(' ').append(1 + upTo(7));
+    for (int i = 0; i < keeps; i++) b.append(";keep ").append(5 + upTo(30)).append(' ').append(upTo(3));
+    for (int i = 0; i < 3; i++) b.append(";person ").append(i % keeps).append(' ').append(upTo(9));
+    for (int i = 1; i < keeps; i++) b.append(";beside ").append(i - 1).append(' ').append(i);
+    return b.append(";field ").append(upTo(20)).toString();
+  }
+
   String daleText() {
+    if (one(4)) return closeDale();
     StringBuilder b = new StringBuilder();
     b.append("dale ").append(upTo(one(3) ? 9 : 3)).append(gap()).append(1 + upTo(one(2) ? 98 : 20));
     int keeps = upTo(5) + (one(15) ? 0 : 1);
@@ -123,7 +134,7 @@ public final class RandomRunsTest {
   }
 
   void tellRule() {
-    String text = ruleText();
+    String text = one(6) ? "tell 1 if full<8 or full>tells" : ruleText();
     tape(one(3) ? spoiled(text) : one(10) ? wild() : text);
     due("rule", real.rule(), plain.rule());
   }
