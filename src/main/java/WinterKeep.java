@@ -1,5 +1,6 @@
 import java.util.Arrays;
 
+/** Winter keep, in a decent house; words in capitals are those of the document. */
 public final class WinterKeep {
     public static final int NONE = -1;
 

@@ -26,6 +26,8 @@ public final class FaultsTest {
     daleAt("dale 1 ^;", 0);
     daleAt("^dales 0 1", 0);
     daleAt("^dal", 0);
+    daleAt("^dalez 0 1", 0);
+    daleAt("dale 0 1;^zkeep 1 0", 0);
     daleAt("^Dale 0 1", 0);
     daleAt("dale^X 0 1", 0);
     daleAt("dale ^s 1", 0);
@@ -88,7 +90,7 @@ public final class FaultsTest {
   static void rules() {
     for (String word : "person keep tells full room heat cools beside others burnt night".split(" ")) {
       rule("tell " + word, 0);
-      ruleAt("tell ^" + word + "x", 0);
+      ruleAt("tell ^" + word + "z", 0);
     }
     rule("tell 0", 0);
     rule("  tell99999 ", 0);

@@ -281,6 +281,9 @@ public final class PromisesTest {
     w.night();
     w.air(1);
     due.is("11: HEAT 2, half of it", w.keep(1, 3), 1);
+    w = with("dale 0 99;keep 4 0;person 0 4");
+    nights(w, 4);
+    due.is("11: as FULL as hot", w.air(0), 2);
     w = with("dale 9 9;keep 20 0;person 0 8");
     w.night();
     for (int i = 0; i < 3; i++) w.air(0);
