@@ -289,7 +289,7 @@ public final class WinterKeep {
         for (int i = 0; i < FAR; i++) {
             int bits = nights.pass(run);
             if (bits != 0) {
-                return what == 0 ? now.night + i : Integer.numberOfTrailingZeros(bits);
+                return what == 0 ? now.night + i : leastOf(bits);
             }
         }
         return -2;
@@ -307,6 +307,15 @@ public final class WinterKeep {
             }
         }
         return -2;
+    }
+
+    private static int leastOf(int bits) {
+        for (int k = 0; k < MOST_KEEPS; k++) {
+            if ((bits >> k & 1) != 0) {
+                return k;
+            }
+        }
+        return NONE;
     }
 
     private void startFromNow() {

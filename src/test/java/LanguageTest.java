@@ -69,7 +69,7 @@ public final class LanguageTest {
     }
     Matcher library = Pattern.compile("\\b(Arrays|Math|Integer|Long|System)\\.(\\w+)").matcher(text);
     while (library.find()) {
-      must(List.of("copyOf", "min", "max", "bitCount", "numberOfTrailingZeros").contains(library.group(2)),
+      must(List.of("copyOf", "min", "max", "bitCount").contains(library.group(2)),
           "rule 4: " + library.group());
     }
   }
