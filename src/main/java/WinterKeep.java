@@ -1513,8 +1513,7 @@ public final class WinterKeep {
                     return many;
                 }
             }
-            canSit(scene, 0, MOST_KEEPS);
-            return MOST_KEEPS;
+            return canSit(scene, 0, MOST_KEEPS) ? MOST_KEEPS : NONE;
         }
 
         private boolean canSit(Scene scene, int keep, int many) {

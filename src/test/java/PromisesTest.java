@@ -464,7 +464,7 @@ public final class PromisesTest {
         + "beside 0 4;beside 0 5;beside 1 2;beside 1 3;beside 1 4;beside 1 5;beside 2 3;beside 2 4;beside 2 5;"
         + "beside 3 4;beside 3 5;beside 4 5");
     due.is("21: six", w.apart(-1), 6);
-    due.is("21: the last", w.apart(5), 5);
+    for (int k = 0; k < 6; k++) due.is("21: each its own", w.apart(k), k);
     due.is("22: six", w.clash(0), 6);
     due.is("22: all", w.clash(1), 63);
     w = with("dale 0 1;keep 1 0;keep 1 0;keep 1 0;keep 1 0;beside 0 3;beside 3 2;beside 2 1");
