@@ -73,10 +73,11 @@ public final class WinterKeep {
 
     public int dale() {
         Dale next = new Dale();
-        if (!DaleReader.read(tape, next)) {
+        boolean isRead = DaleReader.read(tape, next);
+        tape.length = 0;
+        if (!isRead) {
             return -2 - tape.fault;
         }
-        tape.length = 0;
         told = next;
         now.begin(next);
         notes.many = 0;
@@ -88,10 +89,11 @@ public final class WinterKeep {
         if (ruleMany >= MOST_RULES) {
             return NONE;
         }
-        if (!ruleReader.read(tape)) {
+        boolean isRead = ruleReader.read(tape);
+        tape.length = 0;
+        if (!isRead) {
             return -2 - tape.fault;
         }
-        tape.length = 0;
         rules[ruleMany] = ruleReader.made();
         ruleMany++;
         return ruleMany - 1;

@@ -188,8 +188,8 @@ public final class FaultsTest {
     w.night();
     w.note(1, 0, 5);
     due.is("a FAULT", Bytes.dale(w, "dale 1 2;keep 3"), fault(15, 0));
-    due.is("the TAPE stays", w.count(15), 15);
-    due.is("the FAULT again", w.dale(), fault(15, 0));
+    due.is("the TAPE is empty behind a FAULT", w.count(15), 0);
+    due.is("an empty TAPE has a FAULT", w.dale(), fault(0, 0));
     due.is("LEAK stays", w.count(0), 3);
     due.is("HOT stays", w.count(1), 4);
     due.is("the KEEP stays", w.keep(0, 0), 5);
@@ -209,14 +209,41 @@ public final class FaultsTest {
     due.is("x stays", w.count(14), 77);
     due.is("the IMAGE stays", w.back(2), 1);
     due.is("a faulty RULE", Bytes.rule(w, "tell"), fault(4, 0));
+    due.is("its TAPE is empty then", w.count(15), 0);
+    due.is("an empty TAPE is no RULE", w.rule(), fault(0, 0));
     due.is("RULES", w.count(5), 1);
     for (int i = 1; i < 6; i++) due.is("RULE " + i, Bytes.rule(w, "tell " + i), i);
     due.is("a seventh", Bytes.rule(w, "tell 7"), -1);
     due.is("its TAPE stays", w.count(15), 6);
     due.is("RULES then", w.count(5), 6);
+    due.is("a faulty seventh", Bytes.rule(w, "tell"), -1);
+    due.is("its TAPE stays, too", w.count(15), 4);
+    due.is("an empty seventh", Bytes.rule(w, ""), -1);
+  }
+
+  /** Nothing of a text with a FAULT stands ahead of the next one. */
+  static void textsBehindFaults() {
+    WinterKeep w = new WinterKeep();
+    int[] good = Bytes.twenty("dale 1 9;field 3    ", 0);
+    int[] bad = Bytes.twenty("dale 1 9;field 3   ;", 0);
+    due.is("a faulty DALE comes", w.feed(bad[0], bad[1], bad[2], bad[3], bad[4]), 20);
+    due.is("its FAULT", w.dale(), fault(20, 0));
+    due.is("a good DALE comes", w.feed(good[0], good[1], good[2], good[3], good[4]), 20);
+    due.is("it has no KEEPS", w.dale(), 0);
+    due.is("it has a FIELD", w.count(4), 1);
+    int[] rule = Bytes.twenty("tell 1 if night < 9 ", 0);
+    due.is("a DALE comes again", w.feed(good[0], good[1], good[2], good[3], good[4]), 20);
+    due.is("it is no RULE", w.rule(), fault(0, 0));
+    due.is("a RULE comes", w.feed(rule[0], rule[1], rule[2], rule[3], rule[4]), 20);
+    due.is("it is RULE 0", w.rule(), 0);
+    for (int i = 0; i < 20; i++) w.feed(0, 0, 0, 0, 0);
+    due.is("the TAPE is whole", w.feed(0, 0, 0, 0, 0), -1);
+    due.is("it is no RULE", w.rule(), fault(0, 0));
+    due.is("there is room again", w.feed(0, 0, 0, 0, 0), 20);
   }
 
   public static void main(String[] args) {
+    textsBehindFaults();
     dales();
     manyClauses();
     rules();

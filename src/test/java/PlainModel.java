@@ -386,9 +386,10 @@ final class PlainModel {
   }
 
   int dale() {
-    Text d;
-    try { d = new Reader(tape.toString()).dale(); } catch (Fault f) { return -2 - f.code; }
+    String text = tape.toString();
     tape.setLength(0);
+    Text d;
+    try { d = new Reader(text).dale(); } catch (Fault f) { return -2 - f.code; }
     now = World.begin(d);
     notes.clear();
     acts.clear();
@@ -397,9 +398,10 @@ final class PlainModel {
 
   int rule() {
     if (rules.size() == 6) return -1;
-    List<Clause> r;
-    try { r = new Reader(tape.toString()).rule(); } catch (Fault f) { return -2 - f.code; }
+    String text = tape.toString();
     tape.setLength(0);
+    List<Clause> r;
+    try { r = new Reader(text).rule(); } catch (Fault f) { return -2 - f.code; }
     rules.add(r);
     return rules.size() - 1;
   }

@@ -117,7 +117,7 @@ public final class RandomRunsTest {
   }
 
   void tape(String text) {
-    if (!one(30)) due("end(0)", real.end(0), plain.end(0));
+    if (one(2)) due("end(0)", real.end(0), plain.end(0));
     for (int i = 0; i < text.length(); i += 20) {
       int[] n = Bytes.twenty(text, i);
       due("feed " + text.substring(i, Math.min(text.length(), i + 20)),
