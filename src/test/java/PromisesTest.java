@@ -11,21 +11,8 @@ public final class PromisesTest {
   static final String DALE = "dale 2 9;keep 12 1;keep 20 0;keep 8 2;person 0 6;person 1 9;person 1 3;"
       + "field 5;field 20;beside 0 1";
 
-  static WinterKeep with(String dale) {
-    WinterKeep w = new WinterKeep();
-    if (Bytes.dale(w, dale) < 0) throw new IllegalStateException("no DALE: " + dale);
-    return w;
-  }
-
-  static WinterKeep with(String dale, String... rules) {
-    WinterKeep w = with(dale);
-    for (int i = 0; i < rules.length; i++) {
-      if (Bytes.rule(w, rules[i]) != i) throw new IllegalStateException("no RULE: " + rules[i]);
-    }
-    return w;
-  }
-
-  static void nights(WinterKeep w, int n) { for (int i = 0; i < n; i++) w.night(); }
+  static WinterKeep with(String dale, String... rules) { return Given.dale(dale, rules); }
+  static void nights(WinterKeep w, int n) { Given.nights(w, n); }
 
   static void promise1() {
     WinterKeep w = new WinterKeep();
