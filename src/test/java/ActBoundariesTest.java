@@ -307,6 +307,10 @@ public final class ActBoundariesTest {
       w.night();
       s.is("FULL 1, no HEAT", w.air(0), 0);
       s.is("empty", w.air(0), -1);
+      w = Given.ruled("dale 0 99;keep 60 0;person 0 4", "tell 1 if night=0");
+      Given.nights(w, 4);
+      s.is("FULL 4, HEAT 4", w.air(0), 2);
+      s.is("HEAT", w.keep(0, 3), 2);
     });
     s.test(11, "NONE, and nothing happens, without these.", () -> {
       WinterKeep w = three();
@@ -531,7 +535,8 @@ public final class ActBoundariesTest {
       w.seat(0, 2);
       w.force(-1);
       w.note(-1, 0, 0);
-      w.note(0, 0, 1);
+      w.note(0, 1, 1);
+      w.note(2, 2, 2);
       w.seed(78);
       s.is("back once more", w.back(2), 1);
       s.is("as it was", state.equals(Given.state(w)) ? 1 : 0, 1);

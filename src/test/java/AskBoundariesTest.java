@@ -110,6 +110,10 @@ public final class AskBoundariesTest {
       s.is("no more", w.burns(0), -2);
       w = Given.dale("dale 0 1" + ";keep 4 0".repeat(6) + ";person 5 4;person 3 4;person 4 4");
       s.is("the least of three", w.burns(1), 3);
+      for (int k = 0; k < 6; k++) {
+        w = Given.dale("dale 0 1" + ";keep 4 0".repeat(6) + ";person " + k + " 4");
+        s.is("KEEP " + k + " alone", w.burns(1), k);
+      }
     });
     s.test(17, "-2: in none of these.", () -> {
       for (int what = 0; what < 2; what++) {
@@ -173,6 +177,13 @@ public final class AskBoundariesTest {
       s.is("FIELD 0 has one, which stays", w.placing(-1), 4);
       s.is("it stays", w.placing(2), -1);
       s.is("into FIELD 1", w.placing(1), 1);
+      Bytes.dale(w, "dale 0 99;keep 9 20;person 0 2;field 1");
+      s.is("a DALE of fewer KEEPS, empty", w.placing(-1) * 10 + w.placing(0), -1);
+      w.night();
+      s.is("FULL 2", w.placing(-1) * 10 + w.placing(0), 10);
+      w = Given.dale(four + ";field 5;field 60");
+      w.night();
+      w.carry(2, 0);
       w.carry(0, 1);
       s.is("no FIELD is left", w.placing(-1), 0);
       for (int k = 0; k < 4; k++) s.is("KEEP " + k + " stays", w.placing(k), -1);
@@ -404,6 +415,8 @@ public final class AskBoundariesTest {
       s.is("in a FIELD", w.most(0, 60), 9);
       w = Given.ruled("dale 0 2;keep 60 0;person 0 9", "tell 1 if tells>7");
       s.is("by what they TELL then", w.most(0, 1), 7);
+      w = Given.dale("dale 0 2;keep 60 20;keep 60 0" + ";person 0 1".repeat(4) + ";person 1 1");
+      s.is("the last PERSON", w.most(4, 1), 7);
     });
     s.test(24, "-2: by none", () -> {
       WinterKeep w = Given.dale("dale 0 3;keep 60 0;person 0 9;person 0 2");
@@ -518,6 +531,14 @@ public final class AskBoundariesTest {
       w.fetch(0);
       w.carry(1, 0);
       s.is("the second may tell as they like", rests(w, 1), 460);
+      // One KEEP for both; the second tells if it is below 9: both have a + b, but 9 if the first TELLS 9.
+      // 6 9 (15) rests, and so do 9 0 and 9 3, which neither alone can make more than 9.
+      w = Given.ruled("dale 0 99;keep 60 20;person 0 1;person 0 1", "tell 1 if person=0 or full<9");
+      s.is("three", rests(w, 1), 369);
+      // The other way round 0 9, 3 9 and 9 6.
+      s.is("three the other way round", w.rests(1, 0, 1, 0) * 100 + w.rests(1, 0, 1, 1) * 10 + w.rests(1, 0, 1, 2), 309);
+      w = Given.dale("dale 0 2;keep 60 0;keep 60 20" + ";person 1 1".repeat(4) + ";person 0 1");
+      s.is("the last PERSON", w.rests(4, 0, 1, 1) * 10 + w.rests(4, 0, 1, 2), 69);
     });
     s.test(26, "1, 2: what the first two TELL (-2: there is none).", () -> {
       WinterKeep w = Given.ruled("dale 4 8;keep 14 0;keep 29 1;person 0 9;person 1 0;beside 0 1",
@@ -575,6 +596,16 @@ public final class AskBoundariesTest {
         w.force(r);
         s.is("by all KEEPS", ring(w), 1501);
       }
+      for (int k = 0; k < 6; k++) {
+        w = Given.dale("dale 0 99" + ";keep 60 20".repeat(6) + ";person " + k + " 2");
+        s.is("by KEEP " + k, ring(w), 3001);
+      }
+      // KEEP 1 or 0 is BURNT behind NIGHT 0, the other one is FULL 30 behind NIGHT 14.
+      for (int k = 0; k < 2; k++) {
+        String[] keeps = {";keep 30 20", ";keep 30 0"};
+        w = Given.dale("dale 0 1" + keeps[k] + keeps[1 - k] + ";person " + k + " 2;person " + (1 - k) + " 9");
+        s.is("by one that is not BURNT", ring(w), 1501);
+      }
     });
     s.test(27, "-2: there is none.", () -> {
       WinterKeep w = Given.dale("dale 0 99;keep 60 20;person 0 1");
@@ -610,6 +641,10 @@ public final class AskBoundariesTest {
         s.is(much + " for 0", w.pence(much, 0), 0);
         for (int k = 1; k < 6; k++) s.is(much + " for " + k, w.pence(much, k), much / 5 + (k <= much % 5 ? 1 : 0));
       }
+      w = Given.dale("dale 0 99;keep 9 20;keep 9 20;person 1 1");
+      w.night();
+      s.is("1 in all", w.pence(9999, 1), 9999);
+      s.is("1 in all, not this one", w.pence(9999, 0), 0);
       w = three();
       s.is("nothing for one that is BURNT", w.pence(19, 0), 0);
       s.is("one in a FIELD", w.pence(19, 1), 9);
@@ -733,6 +768,15 @@ public final class AskBoundariesTest {
       s.is("by KEEP 2, 3 of seven", look(w, 1), 23);
       w.note(1, 2, 2);
       s.is("by KEEP 1, 2 of three", look(w, 1), 12);
+      w = Given.dale("dale 0 99;keep 60 20;keep 60 20;person 1 2;person 1 3", "tell 1-person", "tell 1-person", "tell 1-person");
+      s.is("the most alike without none, 3 of four", look(w, 1), 13);
+      for (int k = 0; k < 6; k++) {
+        w = Given.dale("dale 0 99" + ";keep 60 20".repeat(6) + (";person " + k + " 1").repeat(5), "tell 0", "tell 1-person",
+            "tell 2-person", "tell 3-person", "tell 4-person", "tell person");
+        // FULL 5 by none, then 0, 1, 2, 3, 4 and 4.
+        s.is("by KEEP " + k + " alone", look(w, 1), 10 * k + 2);
+        s.is("not at 0", look(w, 0), 7);
+      }
     });
     s.test(31, "(n 0 to 60) what 0: the KEEP, 1: how many; -2: no RULE is so, or there are no KEEPS.", () -> {
       WinterKeep w = sixty();

@@ -260,6 +260,10 @@ public final class TextBoundariesTest {
           "dale 0 1;field^", "dale 0 1;field 1 ^1", "dale 0 1;keep 1 0;person 0^", "dale 0 1;keep 1 0;person 0 1 ^1"}) {
         s.daleFault(text, CANT_STAND);
       }
+      for (int sign = 0; sign < 256; sign++) {
+        boolean canStand = sign == ' ' || sign == ';' || sign >= '0' && sign <= '9';
+        if (!canStand && sign != '^') s.daleFault("dale 0 1^" + (char) sign + ";keep 1 0", CANT_STAND);
+      }
     });
     s.test(4, "1 a NUMBER of more digits, or not as told (of beside the second KEEP, if it is the first)", () -> {
       s.isDale("dale 00009 00099;keep 00060 00020", 1);
@@ -406,6 +410,10 @@ public final class TextBoundariesTest {
     s.test(5, "FACT: not FACT | [ TEST ] (these brackets are signs) | SUM SIGN SUM, SIGN one of < <= = >= >.", () -> {
       hold("1<2", "1<=1", "1<=2", "1=1", "1>=1", "2>=1", "2>1", "not 1=2", "not not 1=1", "not 1=2 or 1=1", "[1=1]",
           "[[1=1]]", "not [1=2 or 1=2]", "[1=2 or 1=1] and 1=1", "not 1=2 and 1=1");
+      for (String fact : new String[] {"1<2", "1<=1", "1=1", "1>=1", "2>1"}) {
+        hold(fact + " and 1=1", "1=1 and " + fact, fact + " and " + fact, "1=2 or " + fact);
+        doNotHold("not " + fact, "not [" + fact + "] and 1=1", fact + " and 1=2");
+      }
       doNotHold("1<1", "2<1", "2<=1", "1=2", "2=1", "1>=2", "1>1", "1>2", "not 1=1",
           "not 1=1 and 1=2", "[1=1 or 1=1] and 1=2", "not [1=1 and 1=1]", "not not 1=2");
       s.ruleFault("tell 1 if 1 < ^= 1", CANT_STAND);
@@ -564,6 +572,17 @@ public final class TextBoundariesTest {
       s.ruleFault("tell 1 if " + facts + " or 1=^1", MANY);
       s.isRule("tell 1 if not [" + facts + "];tell 1;tell 1");
       s.ruleFault("tell 1 if not [" + facts + "];tell 1;tell 1;tell ^1", MANY);
+      // Each RULE by itself, by turns 59 - 59 and 60 - 59.
+      WinterKeep w = Given.dale("dale 0 99;keep 60 20;person 0 1");
+      for (int i = 0; i < 6; i++) {
+        s.is("61 VALUES", Bytes.rule(w, "tell 1" + "*1".repeat(60)), FaultsTest.fault(125, MANY));
+        s.is("60 VALUES, RULE " + i, Bytes.rule(w, "tell " + (59 + i % 2) + "-1".repeat(59)), i);
+      }
+      for (int i = 0; i < 6; i++) {
+        w.force(i);
+        w.night();
+        s.is("FULL behind RULE " + i, w.keep(0, 2), (i + 1) / 2);
+      }
     });
   }
 
@@ -571,12 +590,16 @@ public final class TextBoundariesTest {
     String values59 = "tell 1" + "+1".repeat(58);
     String values60 = values59 + "+1";
     s.test(5, "0 a byte or WORD that can't stand there, or the end (behind the last byte)", () -> {
-      for (String text : new String[] {"^", "   ^", "^x", "^1", "^dale 0 1", "^Tell 1", "tell^", "tell   ^", "tell ^x", "tell ^tell 1",
-          "tell ^;", "tell ^or", "tell 1+^", "tell 1 +  ^", "tell 1 ^x", "tell 1 ^or 1=1", "tell 1 ^tell 1", "tell 1 ^= 1",
-          "tell 1^\0", "tell 1^\u0080", "tell 1 if ^if", "tell 1 if 1^", "tell 1 if 1 ^", "tell 1 if 1 ^;", "tell 1 if 1=^",
-          "tell 1 if 1=1 ^1", "tell 1 if 1=1 ^not 1=1", "tell 1 if not^", "tell 1 if not ^;", "tell 1 if [^", "tell 1 if [1=1 ^",
-          "tell 1 if 1 ^and 1=1", "tell 1; ^if", "tell 1;   ^"}) {
+      for (String text : new String[] {"^", "   ^", "^x", "^1", "^dale 0 1", "^Tell 1", "tell^", "tell   ^", "tell ^x",
+          "tell ^tell 1", "tell ^;", "tell ^or", "tell 1+^", "tell 1 +  ^", "tell 1 ^x", "tell 1 ^or 1=1", "tell 1 ^tell 1",
+          "tell 1 ^= 1", "tell 1^\0", "tell 1^\u0080", "tell 1 if ^if", "tell 1 if 1^", "tell 1 if 1 ^", "tell 1 if 1 ^;",
+          "tell 1 if 1=^", "tell 1 if 1=1 ^1", "tell 1 if 1=1 ^not 1=1", "tell 1 if not^", "tell 1 if not ^;", "tell 1 if [^",
+          "tell 1 if [1=1 ^", "tell 1 if 1 ^and 1=1", "tell 1; ^if", "tell 1;   ^"}) {
         s.ruleFault(text, CANT_STAND);
+      }
+      for (int sign = 0; sign < 256; sign++) {
+        boolean canStand = sign == ' ' || sign == ';' || sign >= '0' && sign <= '9' || "+-*/%".indexOf(sign) >= 0;
+        if (!canStand && sign != '^') s.ruleFault("tell 1^" + (char) sign + ";tell 1", CANT_STAND);
       }
     });
     s.test(5, "1 a NUMBER of more digits, or not as told", () -> {
